@@ -370,13 +370,11 @@ public final class CrewPay {
         }
     }
 
-    /** The rates of a rank. */
     private static final class Rates {
         final Rule day = new Rule(FIRST_DAY_RATE);
         final Rule night = new Rule(FIRST_NIGHT_RATE);
     }
 
-    /** A sheet that has come. */
     private static final class Sheet {
         final int week;
         int day;
@@ -389,7 +387,6 @@ public final class CrewPay {
         }
     }
 
-    /** What a worker got in a week. */
     private static final class Slip {
         private final int gross;
         private final int takenBack;
@@ -419,7 +416,6 @@ public final class CrewPay {
         }
     }
 
-    /** The pot of an employer. */
     private static final class Pot {
         int cents = 0;
         int shortage = 0;
@@ -437,7 +433,6 @@ public final class CrewPay {
         }
     }
 
-    /** A transfer that filled a pot. */
     private static final class Transfer {
         final Pot pot;
         final int amount;
@@ -471,7 +466,6 @@ public final class CrewPay {
         }
     }
 
-    /** A worker, with sheets, slips and what was reckoned. */
     private static final class Worker {
         final Pot pot;
         final Rule rank = new Rule(FIRST_RANK);
