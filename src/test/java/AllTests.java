@@ -9,6 +9,8 @@ public final class AllTests {
         OrdersTest.run(checks);
         PotsTest.run(checks);
         PayingTest.run(checks);
+        BoundariesTest.run(checks);
+        ArgumentEndsTest.run(checks);
         RandomRunsTest.run(checks);
         System.out.println(checks.summary());
         System.exit(checks.allHold() ? 0 : 1);

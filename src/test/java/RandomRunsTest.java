@@ -49,7 +49,7 @@ final class RandomRunsTest {
     private String compare(String name, int[] x) {
         String want = Checks.outcome(
                 () -> Math.toIntExact(model.call(name, x[0], x[1], x[2], x[3], x[4])));
-        String got = Checks.outcome(() -> call(name, x));
+        String got = Checks.outcome(() -> Calls.call(pay, name, x));
         return got.equals(want) ? null
                 : name + Arrays.toString(x) + " answered " + got + ", due is " + want;
     }
@@ -97,31 +97,5 @@ final class RandomRunsTest {
 
     private static int[] of(int... given) {
         return Arrays.copyOf(given, 5);
-    }
-
-    private int call(String name, int[] x) {
-        switch (name) {
-            case "addWorker": return pay.addWorker(x[0]);
-            case "setRank": return pay.setRank(x[0], x[1], x[2]);
-            case "setRates": return pay.setRates(x[0], x[1], x[2], x[3]);
-            case "come": return pay.come(x[0], x[1], x[2], x[3], x[4]);
-            case "correct": return pay.correct(x[0], x[1], x[2], x[3]);
-            case "acknowledged": return pay.acknowledged(x[0]);
-            case "due": return pay.due(x[0], x[1]);
-            case "order": return pay.order(x[0], x[1], x[2], x[3]);
-            case "left": return pay.left(x[0]);
-            case "setFloor": return pay.setFloor(x[0]);
-            case "fill": return pay.fill(x[0], x[1]);
-            case "bounce": return pay.bounce(x[0]);
-            case "pot": return pay.pot(x[0]);
-            case "shortage": return pay.shortage(x[0]);
-            case "close": return pay.close();
-            case "week": return pay.week();
-            case "slip": return pay.slip(x[0], x[1], x[2]);
-            case "toTakeBack": return pay.toTakeBack(x[0]);
-            case "claim": return pay.claim(x[0]);
-            case "claimBySlips": return pay.claimBySlips(x[0]);
-            default: throw new AssertionError(name);
-        }
     }
 }
