@@ -4,6 +4,7 @@ public final class AllTests {
         Checks checks = new Checks();
         FaceTest.run(checks);
         LanguageTest.run(checks, args[0]);
+        ReadmeTest.run(checks);
         WorkersAndRulesTest.run(checks);
         SheetsTest.run(checks);
         OrdersTest.run(checks);
